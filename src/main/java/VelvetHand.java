@@ -629,6 +629,16 @@ public final class VelvetHand {
             spring = 20;
             callers = 0;
         }
+
+        // Of the last caller, in the order of the text.
+        void tellCaller(int which, int number) {
+            switch (which) {
+                case 0: put(pride, callers - 1, number); break;
+                case 1: put(heart, callers - 1, number); break;
+                case 2: put(land, callers - 1, number); break;
+                default: put(wants, callers - 1, number); break;
+            }
+        }
     }
 
     /** All that shakes change, and that undo and images bring again. */
@@ -724,6 +734,7 @@ public final class VelvetHand {
     private static final class Text {
         // Beyond all letters, so that a token is a letter or one of these.
         private static final int END = 256, NUMBER = 257, NO_TOKEN = 258;
+        private static final int NO_ITEM = 0;
 
         private final int[] letters = new int[MOST_LETTERS];
         int length;
@@ -731,6 +742,9 @@ public final class VelvetHand {
         private int token;
         private int tokenPlace;
         private int number;
+        // The letter of the item that is being told, and how many of its numbers were.
+        private int item;
+        private int numbers;
         private boolean gripTold;
         private boolean velvetTold;
         private boolean springTold;
@@ -752,86 +766,99 @@ public final class VelvetHand {
 
         // How many items, or -10 less the place of the fault.
         int tell(Setting setting) {
-            place = 0;
-            gripTold = false;
-            velvetTold = false;
-            springTold = false;
+            begin();
             setting.begin();
             int items = 0;
             readToken();
-            while (token != END && items < MOST_LETTERS) {
-                if (!readItem(setting) || !isNext(';')) {
+            for (int read = 0; read < MOST_LETTERS && token != END; read++) {
+                if (!takeToken(setting)) {
                     return -10 - tokenPlace;
                 }
-                items++;
+                if (token == ';') {
+                    items++;
+                }
                 readToken();
             }
-            return items;
+            return item == NO_ITEM ? items : -10 - tokenPlace;
+        }
+
+        private void begin() {
+            place = 0;
+            item = NO_ITEM;
+            numbers = 0;
+            gripTold = false;
+            velvetTold = false;
+            springTold = false;
         }
 
         // Where this answers false, the token at hand is the one that can't stand there.
-        private boolean readItem(Setting setting) {
+        private boolean takeToken(Setting setting) {
+            if (item == NO_ITEM) {
+                return takeLetter(setting);
+            }
+            if (numbers < (item == 'c' ? 4 : 1)) {
+                return takeNumber(setting);
+            }
+            item = NO_ITEM;
+            return token == ';';
+        }
+
+        private boolean takeLetter(Setting setting) {
+            boolean again;
             switch (token) {
-                case 'c': return readCaller(setting);
-                case 'g': return readGrip(setting);
-                case 'v': return readVelvet(setting);
-                case 's': return readSpring(setting);
-                default: return false;
+                case 'c':
+                    again = setting.callers >= MOST_CALLERS;
+                    setting.callers += again ? 0 : 1;
+                    break;
+                case 'g':
+                    again = gripTold;
+                    gripTold = true;
+                    break;
+                case 'v':
+                    again = velvetTold;
+                    velvetTold = true;
+                    break;
+                case 's':
+                    again = springTold;
+                    springTold = true;
+                    break;
+                default:
+                    return false;
             }
+            item = token;
+            numbers = 0;
+            return !again;
         }
 
-        private boolean readCaller(Setting setting) {
-            int c = setting.callers;
-            if (c >= MOST_CALLERS) {
+        private boolean takeNumber(Setting setting) {
+            if (token != NUMBER || number < leastNumber() || number > mostNumber()) {
                 return false;
             }
-            setting.callers++;
-            return readInto(setting.pride, c, 1, 30) && readInto(setting.heart, c, 0, 30)
-                && readInto(setting.land, c, 0, 9) && readInto(setting.wants, c, 0, 5);
-        }
-
-        private boolean readGrip(Setting setting) {
-            if (gripTold || !isNumber(0, 9)) {
-                return false;
+            switch (item) {
+                case 'g': setting.grip = number; break;
+                case 'v': setting.velvet = number; break;
+                case 's': setting.spring = number; break;
+                default: setting.tellCaller(numbers, number); break;
             }
-            gripTold = true;
-            setting.grip = number;
+            numbers++;
             return true;
         }
 
-        private boolean readVelvet(Setting setting) {
-            if (velvetTold || !isNumber(0, 9)) {
-                return false;
+        private int leastNumber() {
+            boolean isPride = item == 'c' && numbers == 0;
+            return isPride || item == 's' ? 1 : 0;
+        }
+
+        private int mostNumber() {
+            if (item != 'c') {
+                return item == 's' ? 60 : 9;
             }
-            velvetTold = true;
-            setting.velvet = number;
-            return true;
-        }
-
-        private boolean readSpring(Setting setting) {
-            if (springTold || !isNumber(1, 60)) {
-                return false;
+            switch (numbers) {
+                case 0: return 30;
+                case 1: return 30;
+                case 2: return 9;
+                default: return 5;
             }
-            springTold = true;
-            setting.spring = number;
-            return true;
-        }
-
-        private boolean readInto(int[] row, int c, int least, int most) {
-            if (!isNumber(least, most)) {
-                return false;
-            }
-            put(row, c, number);
-            return true;
-        }
-
-        private boolean isNumber(int least, int most) {
-            return isNext(NUMBER) && number >= least && number <= most;
-        }
-
-        private boolean isNext(int wanted) {
-            readToken();
-            return token == wanted;
         }
 
         private void readToken() {

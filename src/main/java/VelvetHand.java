@@ -785,7 +785,6 @@ public final class VelvetHand {
         private void begin() {
             place = 0;
             item = NO_ITEM;
-            numbers = 0;
             gripTold = false;
             velvetTold = false;
             springTold = false;

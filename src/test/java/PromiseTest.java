@@ -9,6 +9,7 @@ public final class PromiseTest {
         embassyTellsAll();
         embassyFaults();
         embassyBeginsAnew();
+        embassyAgain();
         caller();
         rings();
         now();
@@ -211,6 +212,36 @@ public final class PromiseTest {
         due("4: both", STATE, x.back(1));
         due("4: nothing can be undone", STATE, x.undo());
         due("4: the trace goes on", 1, x.trace());
+    }
+
+    private static void embassyAgain() {
+        VelvetHand x = told("g9;v5;s1;c30 4 0 0;");
+        x.shakes(0, 0);
+        due("4: shut", 0, x.now(3));
+        Checks.typeAll(x, "g8;v8;s8;c1");
+        due("4: a fault", -21, x.embassy());
+        due("4: cleared", 11, x.clear());
+        for (int i = 0; i < 3; i++) {
+            due("4: nothing is told", 0, x.embassy());
+            due("4: open", NONE, x.now(3));
+            due("4: callers as at first", 0, x.count(0));
+            due("4: grip as at first", 4, x.count(1));
+            due("4: velvet as at first", 3, x.count(2));
+            due("4: spring as at first", 20, x.count(3));
+        }
+        Checks.typeAll(x, "g1;g2;");
+        due("4: told twice", -13, x.embassy());
+        x.clear();
+        Checks.typeAll(x, "g2;v2;s2;");
+        due("4: but once in this one", 3, x.embassy());
+        VelvetHand long120 = new VelvetHand();
+        Checks.typeAll(long120, "g1;" + ";".repeat(117));
+        due("4: a full text", -13, long120.embassy());
+        long120.clear();
+        Checks.typeAll(long120, " ".repeat(117) + "g1;");
+        due("4: a full text of blanks", 1, long120.embassy());
+        Checks.typeAll(long120, " ".repeat(118) + "g1");
+        due("4: a full text ends too early", -130, long120.embassy());
     }
 
     private static void caller() {
@@ -518,6 +549,9 @@ public final class PromiseTest {
         z.shakes(0, 0);
         z.consoles(0);
         ways("13: consoled, warm", z, 0, "01");
+        VelvetHand first = told("g9;v2;c1 8 0 0;");
+        first.shakes(0, 0);
+        ways("13: leaves by the first", first, 0, "10");
     }
 
     private static void gain() {
@@ -535,6 +569,11 @@ public final class PromiseTest {
         due("14: fewest shakes of much land", 3, same.gain(3, 1));
         due("14: with all", 7, same.gain(4, 1));
         due("14: one land", 12, same.gain(40, 0));
+        VelvetHand alike = told("g5;v9;c15 0 8 0;c5 0 8 0;");
+        due("14: of as much land fewest shakes, though more bits", 2, alike.gain(3, 1));
+        VelvetHand steps = told("g5;v9;c15 0 4 0;c10 0 4 0;c5 0 4 0;");
+        due("14: the shortest of two", 4, steps.gain(2, 1));
+        due("14: the shortest of three, two together", 6, steps.gain(5, 1));
         VelvetHand none = told("g9;v0;c1 5 9 0;c9 0 1 0;");
         due("14: who has no way", 2, none.gain(40, 1));
         none.shakes(0, 0);
@@ -569,6 +608,9 @@ public final class PromiseTest {
         due("15: as if they had not", 10, leaves.tune(1, 5));
         due("15: both", 12, leaves.tune(3, 5));
         due("15: leaving is none", NONE, told("c6 30 0 0;c30 0 0 0;").tune(2, 5));
+        due("15: grip 10 is none", NONE, told("c10 0 0 0;").tune(1, 1));
+        due("15: velvet 10 is none", NONE, told("c1 10 0 0;").tune(1, 1));
+        due("15: both the most", 99, told("c9 9 0 0;").tune(1, 1));
         due("15: nobody", 0, new VelvetHand().tune(0, 5));
         due("15: nobody there", BAD, new VelvetHand().tune(1, 5));
     }
@@ -658,6 +700,9 @@ public final class PromiseTest {
         x.lines(9);
         x.shakes(2, 0);
         due("19: velvet and bruises now do not matter", 0x3fc, x.soft());
+        VelvetHand heartless = told("g1;v9;c1 0 0 0;");
+        heartless.tells(0, 1, 1);
+        due("19: by 0, too", 1023, heartless.soft());
         VelvetHand again = told("g9;v0;c1 9 0 0;");
         // By 9 he yields at once; by 5 at the second (18 is more than 11, but he yields).
         again.tells(0, 9, 1);
@@ -678,6 +723,10 @@ public final class PromiseTest {
         due("20: above", BAD, x.ask(10));
         due("20: no callers", NONE, new VelvetHand().ask(1));
         due("20: BAD without callers", BAD, new VelvetHand().ask(10));
+        VelvetHand two = told("g9;c1 2 0 0;c1 1 0 0;");
+        two.tells(0, 1, 0);
+        due("20: two velvets", 3, two.soft());
+        due("20: one of two", 1, two.ask(1));
         VelvetHand nobody = told("g0;c1 0 0 0;c1 0 0 0;");
         due("20: all alike, lowest", 0, nobody.ask(1));
     }

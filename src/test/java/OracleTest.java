@@ -11,9 +11,11 @@ import java.util.regex.Pattern;
  * document: it tries whole rows of shakes and whole sets where the program reckons.
  */
 public final class OracleTest {
-    private static final int RUNS = 400;
-    private static final int CALLS = 500;
+    private static final int RUNS = 900;
+    // The dearest step (a text) and the last look have room behind these: 512 calls are promised.
+    private static final int CALLS = 330;
     private static long seed = 20261118;
+    private static int calls;
 
     public static void main(String[] args) {
         for (int run = 0; run < RUNS; run++) {
@@ -34,14 +36,15 @@ public final class OracleTest {
         Checks.typeAll(hand, text);
         model.text.append(text);
         compare(run, "embassy of " + text, model.embassy(), hand.embassy());
-        int calls = text.length() + 1;
-        for (; calls < CALLS; calls++) {
+        calls = text.length() + 1;
+        for (int steps = 0; calls < CALLS && steps < CALLS; steps++) {
             oneCall(run, hand, model);
         }
         lookAtAll(run, hand, model);
     }
 
     private static void compare(int run, String call, long want, long got) {
+        calls++;
         Checks.due("run " + run + ": " + call, want, got);
     }
 

@@ -826,7 +826,7 @@ public final class PromiseTest {
         due("25: goes on behind back", 1011, x.trace());
         x.embassy();
         due("25: goes on behind embassy", 1011, x.trace());
-        for (int i = 0; i < 500; i++) {
+        for (int i = 0; i < 450; i++) {
             x.trace();
         }
         due("25: asks nothing", 1011, x.trace());

@@ -13,7 +13,7 @@ public final class VelvetHand {
     private static final int STRENGTHS = 10;
     private static final int PATIENCE = 10;
     private static final int OUT_OF_REACH = 1000;
-    private static final int YIELDED = 1, LEFT = 2;
+    private static final int NEITHER = 0, YIELDED = 1, LEFT = 2;
 
     private Setting setting;
     // The text is read into this one, so that a faulty text leaves the setting as it was.
@@ -387,7 +387,7 @@ public final class VelvetHand {
 
     private boolean bringsJust(int set, int k, int grip, int velvet) {
         for (int c = 0; c < setting.callers; c++) {
-            int due = isIn(set, c) ? YIELDED : 0;
+            int due = isIn(set, c) ? YIELDED : NEITHER;
             if (tryPlain(c, k, grip, velvet) != due) {
                 return false;
             }
@@ -395,23 +395,18 @@ public final class VelvetHand {
         return true;
     }
 
-    // What comes of k plain shakes of one who was not shaken before: YIELDED, LEFT, both, neither.
+    // What comes first of k plain shakes of one who was not shaken before: YIELDED, LEFT, or neither.
+    // One who yields is then as at first, and yields by as many again: he can't leave behind that.
     private int tryPlain(int c, int k, int grip, int velvet) {
-        int bruised = 0;
-        int warm = 0;
-        int result = 0;
-        for (int i = 0; i < k; i++) {
-            bruised += grip;
-            warm += velvet;
-            if (wouldYield(c, bruised, warm)) {
-                result |= YIELDED;
-                bruised = 0;
-                warm = 0;
-            } else if (wouldLeave(c, bruised)) {
-                return result | LEFT;
+        for (int shakes = 1; shakes <= k; shakes++) {
+            if (wouldYield(c, shakes * grip, shakes * velvet)) {
+                return YIELDED;
+            }
+            if (wouldLeave(c, shakes * grip)) {
+                return LEFT;
             }
         }
-        return result;
+        return NEITHER;
     }
 
     // Of the 10 to the power of here equal cases, those in which k at most leave.
@@ -495,7 +490,7 @@ public final class VelvetHand {
     private int yieldingVelvets(int c, int k) {
         int velvets = 0;
         for (int velvet = 0; velvet < STRENGTHS; velvet++) {
-            if ((tryPlain(c, k, setting.grip, velvet) & YIELDED) != 0) {
+            if (tryPlain(c, k, setting.grip, velvet) == YIELDED) {
                 velvets |= 1 << velvet;
             }
         }

@@ -125,6 +125,14 @@ public final class EdgeLandTest {
         due("BRUISED by PRIDE and 10", 12, brink.caller(0, 4));
         ways("the next plain one would be too much", brink, 0, "1");
         ways("but fewer are", brink, 1, "001");
+        VelvetHand first = told("g6;v1;s60;c2 5 0 0;c2 22 0 0;c2 23 0 0;c2 4 0 0;");
+        for (int c = 0; c < 4; c++) {
+            Checks.shakeAll(first, c, "00");
+        }
+        ways("he would leave by the first plain one, by the second he yields", first, 0, "10");
+        ways("ten, none of them plain", first, 1, "1111111111");
+        ways("eleven, none of them plain", first, 2, "");
+        ways("one, not plain", first, 3, "1");
         VelvetHand lost = told("g9;v0;s60;c1 1 0 0;c30 1 0 0;");
         ways("never WARM", lost, 0, "");
         ways("never WARM, however proud", lost, 1, "");

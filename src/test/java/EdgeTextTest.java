@@ -1,3 +1,4 @@
+import java.util.List;
 import java.util.function.ToIntFunction;
 
 /** Each edge that the document names of the text and what it tells: Terms 1, promises 1 to 4. */
@@ -34,6 +35,8 @@ public final class EdgeTextTest {
         firstFaultOfSeveral();
         aFaultChangesNothing();
         toldAnewFromFullToEmpty();
+        toldAnewAsANewOne();
+        nothingOfAnEarlierText();
         Checks.end();
     }
 
@@ -397,6 +400,57 @@ public final class EdgeTextTest {
                 hand.rate(4, 0);
                 Checks.typeAll(hand, text);
             }, -10 - places[i], hand -> hand.embassy());
+        }
+    }
+
+    private static void toldAnewAsANewOne() {
+        String[] texts = {"", "g1;", "v1;", "s1;", "c3 4 5 0;", "g0;v0;s1;" + SIX, "s2;c8 30 1 0;c9 30 2 0;"};
+        for (String first : texts) {
+            for (String text : texts) {
+                for (int often = 1; often <= 2; often++) {
+                    asANewOne(first, text, often);
+                }
+            }
+        }
+    }
+
+    private static void asANewOne(String first, String text, int often) {
+        VelvetHand hand = Checks.told("g9;v8;s7;c9 5 8 0;c1 30 7 1;c30 30 6 2;");
+        for (int i = 0; i < often; i++) {
+            hand.shakes(0, 0);
+            hand.keep(0);
+            Checks.shakeAll(hand, 1, "1000000");
+            hand.lines(0);
+            hand.tells(0, 1, 1);
+            hand.keep(1);
+            Checks.typeAll(hand, i == 0 && often == 2 ? first : text);
+            hand.embassy();
+        }
+        List<Long> due = Checks.allThatCanBeSeen(Checks.told(text));
+        List<Long> seen = Checks.allThatCanBeSeen(hand);
+        due("'" + text + "' anew: as many answers", due.size(), seen.size());
+        for (int i = 0; i < Math.min(due.size(), seen.size()); i++) {
+            due("'" + text + "' anew: answer " + i, due.get(i), seen.get(i));
+        }
+    }
+
+    private static void nothingOfAnEarlierText() {
+        String[] earlier = {"g1      ", "g123456;", "g1;;;;;;", "        ", "00000000"};
+        for (String text : earlier) {
+            VelvetHand hand = new VelvetHand();
+            Checks.typeAll(hand, text);
+            hand.clear();
+            Checks.typeAll(hand, "g");
+            due("g behind '" + text + "'", -11, hand.embassy());
+            hand.type('1');
+            due("g1 behind '" + text + "'", -12, hand.embassy());
+            hand.type(';');
+            due("g1; behind '" + text + "'", 1, hand.embassy());
+            due("GRIP behind '" + text + "'", 1, hand.count(1));
+            Checks.typeAll(hand, "s5");
+            due("s5 behind '" + text + "'", -12, hand.embassy());
+            hand.clear();
+            due("nothing behind '" + text + "'", 0, hand.embassy());
         }
     }
 

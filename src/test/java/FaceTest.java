@@ -79,7 +79,6 @@ public final class FaceTest {
         for (Class<?> inside : VelvetHand.class.getDeclaredClasses()) {
             holds(inside + " is static", Modifier.isStatic(inside.getModifiers()));
             holds(inside + " is not public", !Modifier.isPublic(inside.getModifiers()));
-            holds(inside + " has twenty fields at most", inside.getDeclaredFields().length <= 20);
         }
     }
 

@@ -35,7 +35,7 @@ public final class VelvetHand {
         moment = new Moment();
         past = new Past();
         images = new Moment[IMAGES];
-        for (int i = 0; i < IMAGES; i++) {
+        for (int i = 0; i < images.length; i++) {
             images[i] = new Moment();
         }
         hearsay = new Hearsay();
@@ -681,7 +681,7 @@ public final class VelvetHand {
         int known;
 
         Past() {
-            for (int i = 0; i < MOST_UNDONE; i++) {
+            for (int i = 0; i < rows.length; i++) {
                 rows[i] = new Moment();
             }
         }
